@@ -1688,18 +1688,14 @@ public final class GallRegister {
                 }
             } else if (isDigit(byteAt(start))) {
                 kind = NUMBER;
-                readNumber();
+                value = 0;
+                while (behind < length && isDigit(byteAt(behind))) {
+                    value = Math.min(HUGE, value * 10 + byteAt(behind) - '0');
+                    behind++;
+                }
             } else {
                 kind = byteAt(start) == ';' ? SIGN : OTHER;
                 behind = start + 1;
-            }
-        }
-
-        private void readNumber() {
-            value = 0;
-            while (behind < length && isDigit(byteAt(behind))) {
-                value = Math.min(HUGE, value * 10 + byteAt(behind) - '0');
-                behind++;
             }
         }
 

@@ -41,6 +41,13 @@ final class RowTest {
         due.is("all 0 again", x.laws(0), 0);
         x.write(0, 5, 5);
         due.is("as written", x.laws(0), 15);
+        for (int i = 0; i < 60; i++) {
+            x.row(2, 3, 60);
+            x.write(2, i, 99);
+            due.is("99 at " + i, x.laws(2), -2);
+            x.row(2, 3, 60);
+            due.is("0 at " + i, x.laws(2), 0);
+        }
     }
 
     private static void writes() {

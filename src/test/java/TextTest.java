@@ -158,9 +158,12 @@ final class TextTest {
             marked("book years 6|" + sign + " law 0 odds 5;", 1);
             marked("book years 6 law 0 odds 5;\n|" + sign, 1);
         }
-        marked("boo|K years 6 law 0 odds 5;".replace("|", "").replace("boo", "|boo"), 1);
+        marked("|booK years 6 law 0 odds 5;", 1);
         marked("|books years 6 law 0 odds 5;", 1);
         marked("|boo years 6 law 0 odds 5;", 1);
+        marked("|bookz years 6 law 0 odds 5;", 1);
+        marked("|abook years 6 law 0 odds 5;", 1);
+        marked("book years 6 law 0 odds 5;page |dampz;", 1);
         marked("book |year 6 law 0 odds 5;", 1);
         marked("|bookyears 6 law 0 odds 5;", 1);
     }

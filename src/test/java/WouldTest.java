@@ -15,6 +15,7 @@ final class WouldTest {
         hide();
         save();
         heavy();
+        notWet();
         noneSuch();
         due.close();
     }
@@ -161,6 +162,24 @@ final class WouldTest {
                 + "entry on 0 in 1 wrote 0 says 0;");
         due.is("by what faces it", facing.shade(2, 5), 6);
         due.is("heavy by what faces it", facing.heavy(), 0);
+    }
+
+    /** What would be is told without WET YEARS, whatever the odds. */
+    private static void notWet() {
+        GallRegister x = Due.told("book years 3 law 1 odds 10;ink rise 5 top 5 fade 0;page;page damp;entry on 0 in 0 wrote 0 says 0;");
+        due.is("by", x.by(0), 5);
+        due.is("later", x.later(0, 0), 5);
+        due.is("other", x.other(0, 0), 5);
+        due.is("hide", x.hide(0, 3), 1);
+        due.is("save", x.save(0), 0);
+        due.is("gets", x.gets(0, 1, 0, 0), 3);
+        due.is("gets, turned", x.gets(0, 1, 1, 1), 2);
+        due.is("passes", x.passes(0, 3), 1);
+        due.is("ages", x.ages(0, 0, 5, 3), 15);
+        Due.seen(x, 0, 0, 3, 5);
+        due.is("dates", x.dates(0, 0), 4);
+        due.is("kinds", x.kinds(0, 0), 1);
+        due.is("laws", x.laws(0), 15);
     }
 
     private static void noneSuch() {
