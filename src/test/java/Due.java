@@ -43,6 +43,11 @@ final class Due {
         return x.end(bytes.length);
     }
 
+    /** How many calls feed() makes of a text. */
+    static int feeds(String text) {
+        return (text.length() + 19) / 20 + 1;
+    }
+
     private static int four(byte[] bytes, int i) {
         return (bytes[i] & 255) << 24 | (bytes[i + 1] & 255) << 16 | (bytes[i + 2] & 255) << 8 | (bytes[i + 3] & 255);
     }

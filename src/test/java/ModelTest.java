@@ -36,17 +36,38 @@ final class ModelTest {
         x = Due.told(m.text());
         act();
         told();
+        fresh();
         byYear();
         byEntry();
+        fresh();
         byPair();
         byPage();
         byInk();
+        fresh();
         for (int slot = 0; slot < 4; slot++) {
             seen(slot);
         }
         byLaw();
+        fresh();
         chances();
+        fresh();
         acts();
+    }
+
+    /** What was asked has changed nothing; then another register in the same state, since one is good for 512 calls. */
+    private void fresh() {
+        for (int e = 0; e < m.entries.size(); e++) {
+            is("stays " + e, x.shade(e, m.years), m.shade(e, m.years));
+        }
+        is("acts stay", x.count(6), m.acts.size());
+        x = Due.told(m.text());
+        for (Model.Act act : m.acts) {
+            if (act.ink() < 0) {
+                x.bleaches(act.entry(), act.year());
+            } else {
+                x.retraces(act.entry(), act.ink(), act.year());
+            }
+        }
     }
 
     private void make() {
@@ -120,6 +141,7 @@ final class ModelTest {
 
     private void byEntry() {
         for (int e = -1; e <= m.entries.size(); e++) {
+            fresh();
             boolean none = e < 0 || e == m.entries.size();
             is("entry " + e, x.entry(e, 4), none ? -2 : m.place(e));
             is("faces " + e, x.faces(e), none ? -2 : m.faces(e));
@@ -167,6 +189,7 @@ final class ModelTest {
 
     private void byPage() {
         for (int p = -1; p <= m.damp.size(); p++) {
+            fresh();
             int page = p;
             boolean none = p < 0 || p == m.damp.size();
             is("page " + p, x.page(p), none ? -2 : m.damp.get(p) ? 1 : 0);
@@ -193,6 +216,7 @@ final class ModelTest {
 
     private void byInk() {
         for (int i = -1; i <= m.inks.size(); i++) {
+            fresh();
             int ink = i;
             boolean none = i < 0 || i == m.inks.size();
             is("ink " + i, x.ink(i, 0), none ? -2 : m.inks.get(i).rise());
@@ -273,7 +297,7 @@ final class ModelTest {
         }
     }
 
-    /** What was asked has changed nothing; acts are taken back one by one. */
+    /** Acts are taken back one by one. */
     private void acts() {
         x.image(run % 3);
         while (!m.acts.isEmpty()) {
@@ -281,9 +305,8 @@ final class ModelTest {
             m.forget();
             is("undo", x.undo(), m.acts.size());
             for (int e = 0; e < m.entries.size(); e++) {
-                for (int y = 0; y <= m.years; y++) {
-                    is("behind undo, shade " + e + " " + y, x.shade(e, y), m.shade(e, y));
-                }
+                int y = upTo(m.years);
+                is("behind undo, shade " + e + " " + y, x.shade(e, y), m.shade(e, y));
             }
         }
         is("undo of none", x.undo(), -5);
