@@ -233,6 +233,7 @@ final class EdgesOfWould {
         x.bleaches(1, 2);
         e.is("all(2)", x.all(2), 6);
         e.row("by", (r, a) -> r.by(a[0]), x, 6, 6, 6, 6);
+        e.is("later by 0", x.later(0, 0), 6);
         e.is("later", x.later(0, 1), 6);
         e.is("later of the last ENTRY", x.later(1, 1), 0);
         e.is("other", x.other(0, 1), 9);
@@ -242,6 +243,8 @@ final class EdgesOfWould {
         e.is("save", x.save(0), 0);
         e.is("save of the last ENTRY", x.save(1), 2);
         e.is("heavy", x.heavy(), 0);
+        // 9, were it WET 7, and one that RISES to 8.
+        e.is("heavy", register(1, 0, 10, ink(9, 9, 0) + ink(4, 60, 0) + "page;" + entry(0, 0, 0) + entry(0, 1, 0)).heavy(), 0);
         e.is("gets", register(2, 0, 10, ink(6, 6, 0) + "page;page;" + entry(0, 0, 0)).gets(0, 1, 0, 0), 3);
     }
 
