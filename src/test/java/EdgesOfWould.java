@@ -28,6 +28,7 @@ final class EdgesOfWould {
         mean();
         drawn();
         luck();
+        luckRefused();
     }
 
     private static String ink(int rise, int top, int fade) {
@@ -408,10 +409,9 @@ final class EdgesOfWould {
         e.is("and the one behind it", odds4.luck(2000000000, 2, 0), 1);
         GallRegister odds3 = register(1, 0, 3, lines);
         e.is("the last but one, and the last", odds3.luck(1999999999, 2, 0), 2);
-        promised71();
     }
 
-    private void promised71() {
+    private void luckRefused() {
         e.promise(71, "-2: there are none such.");
         e.bounds("luck", -2, (r, a) -> r.luck(a[0], a[1], a[2]), Edges.from(0, 2000000000), Edges.from(1, 20), Edges.ENTRY);
     }
