@@ -87,7 +87,7 @@ public final class GallRegister {
             return FAULTY;
         }
         now.copyFrom(draft);
-        settle();
+        course.follow(now, 0);
         return now.lines;
     }
 
@@ -781,7 +781,7 @@ public final class GallRegister {
             return NOT_NOW;
         }
         now.acts.done--;
-        settle();
+        course.follow(now, 0);
         return now.acts.done;
     }
 
@@ -791,7 +791,7 @@ public final class GallRegister {
         }
         int done = now.acts.done;
         now.acts.done = 0;
-        settle();
+        course.follow(now, 0);
         return done;
     }
 
@@ -840,7 +840,7 @@ public final class GallRegister {
             return NOTHING_KEPT;
         }
         now.copyFrom(images[k]);
-        settle();
+        course.follow(now, 0);
         return 0;
     }
 
@@ -1006,16 +1006,12 @@ public final class GallRegister {
 
     // ---- SHADES as they stand ----
 
-    private void settle() {
-        course.follow(now, 0);
-    }
-
     private int act(int entry, int ink, int year) {
         if (now.acts.done >= MOST_ACTS) {
             return NOT_NOW;
         }
         now.acts.add(entry, ink, year);
-        settle();
+        course.follow(now, 0);
         return course.shade[now.years][entry];
     }
 

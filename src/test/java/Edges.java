@@ -10,7 +10,7 @@ import java.util.Map;
 
 /**
  * Tests of edges, each under the words of the document that it is about: the words must stand there, and at the
- * end every word of the Terms and of the promises must have been named by a test.
+ * end every word of "What it is", the Terms and the promises must have been named by a test.
  */
 final class Edges {
     static final String BARE = "book years 1 law 0 odds 0;";
@@ -75,6 +75,8 @@ final class Edges {
 
     Edges(String doc) throws IOException {
         String text = Files.readString(Path.of(doc)).replace("```text", " ").replace("```", " ");
+        String whole = text.substring(text.indexOf("\n## What it is") + 14, text.indexOf("\n## The public face"));
+        passages.put("What it is", new Passage(plain(whole)));
         String terms = text.substring(text.indexOf("\n## Terms") + 9, text.indexOf("\n## Promise 1:"));
         for (String term : terms.split("\n(?=[IV]+\\. )")) {
             if (!term.isBlank()) {
@@ -90,11 +92,15 @@ final class Edges {
                 passages.put(name, new Passage(plain(body.substring(body.indexOf("`: ") + 3))));
             }
         }
-        due.is("Terms and promises", passages.size(), 8 + 78);
+        due.is("What it is, Terms and promises", passages.size(), 1 + 8 + 78);
     }
 
     private static String plain(String text) {
         return text.strip().replaceAll("\\s+", " ");
+    }
+
+    void whole(String words) {
+        name("What it is", words);
     }
 
     void term(String numeral, String words) {

@@ -31,25 +31,6 @@ final class EdgesOfKept {
         pasteRefused();
         pasteBeyond();
         pasteOrder();
-        lastCalls();
-    }
-
-    /** "An object is used for at most 512 calls": the 512th answers as any other. */
-    private void lastCalls() {
-        GallRegister x = new GallRegister();
-        int calls = 0;
-        for (; calls < 511; calls++) {
-            e.is("call " + calls, x.feed(0, 0, 0, 0, 0), calls < 35 ? 20 * (calls + 1) : -1);
-        }
-        e.is("the 512th", x.end(700), 700);
-        GallRegister y = new GallRegister();
-        e.is("book", Due.book(y, Edges.ONE), 4);
-        for (calls = Due.feeds(Edges.ONE) + 1; calls + 2 <= 510; calls += 2) {
-            e.is("bleaches", y.bleaches(0, 0), 0);
-            e.is("undo", y.undo(), 0);
-        }
-        e.is("near the last", y.bleaches(0, 1), 0);
-        e.is("the last", y.count(6), 1);
     }
 
     private static void thirtyActs(GallRegister x) {

@@ -2,6 +2,7 @@
 final class EdgesTest {
     public static void main(String[] args) throws Exception {
         Edges edges = new Edges(args[0]);
+        new EdgesOfWhole(edges).run();
         new EdgesOfTerms(edges).run();
         new EdgesOfLaws(edges).run();
         new EdgesOfText(edges).run();

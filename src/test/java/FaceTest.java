@@ -18,6 +18,7 @@ final class FaceTest {
         String doc = Files.readString(Path.of(args[0]));
         String source = Files.readString(Path.of(args[1]));
         face(doc.substring(doc.indexOf("```java") + 7, doc.indexOf("```", doc.indexOf("```java") + 7)));
+        asWritten(doc, source);
         nested();
         names(source);
         words(source.replaceAll("(?s)/\\*.*?\\*/", "").replaceAll("//[^\\n]*", ""));
@@ -50,6 +51,26 @@ final class FaceTest {
         due.holds("missing " + minus(want, got), minus(want, got).isEmpty());
         due.holds("beyond " + minus(got, want), minus(got, want).isEmpty());
         due.is("the class", GallRegister.class.getModifiers(), Modifier.PUBLIC | Modifier.FINAL);
+    }
+
+    /** Each line of the face, and what each promise calls, stands in the source with the names that it has there. */
+    private static void asWritten(String doc, String source) {
+        Matcher face = Pattern.compile("(?m)^    (public [^;]+);$").matcher(doc);
+        int lines = 0;
+        while (face.find()) {
+            lines++;
+            String line = face.group(1);
+            due.holds("as it is written there: " + line, source.contains("\n    " + line + (line.endsWith(")") ? " {\n" : ";\n")));
+        }
+        due.is("lines of the face", lines, 79);
+        Matcher promise = Pattern.compile("(?m)^## Promise (\\d+): .*\\n\\n`([^`]+\\))`: ").matcher(doc);
+        int promises = 0;
+        while (promise.find()) {
+            promises++;
+            due.is("the number of " + promise.group(2), Integer.parseInt(promise.group(1)), promises);
+            due.holds("promised " + promise.group(2), source.contains("\n    public " + promise.group(2) + " {\n"));
+        }
+        due.is("promises", promises, 78);
     }
 
     private static String parameters(Class<?>[] types) {
